@@ -448,6 +448,9 @@ public final class GuildFundEdges {
         x.payAhead(0);
         // All dues are 16777218, a float; 16777217 is none, so that a sum of floats would be 16777216.
         due("exposure()", x.exposure(), 45.0f / 16777218.0f);
+        x.payDues(1, 1);
+        // 16777219 is none either: the nearest float, of two the even one, is 16777220.
+        due("exposure()", bits(x.exposure()), bits(45.0f / 16777220.0f));
     }
 
     private static void cut() {
@@ -468,6 +471,7 @@ public final class GuildFundEdges {
     // ---- MEMBERS, CLIENTS, INVOICES
 
     private static void termsOfThings() {
+        holds("An object is used for at most 512 calls after it has been made", GuildFundEdges::mostCalls);
         holds("the day is 0 at first", GuildFundEdges::firstDay);
         holds("There are at most 8 members, numbered from 0", GuildFundEdges::mostMembers);
         holds("each with a weight (1 to 9)", GuildFundEdges::weights);
@@ -484,6 +488,20 @@ public final class GuildFundEdges {
         holds("a state: 0 open, 1 ahead, 2 settled, 3 lost", GuildFundEdges::states);
         holds("The age of an invoice is the day less the day at which it is due", GuildFundEdges::ages);
         holds("it is late by its age, or by 0 if that is below 0", GuildFundEdges::lateOrNot);
+    }
+
+    /** The 512th call answers as the first ones do. */
+    private static void mostCalls() {
+        GuildFund x = new GuildFund();
+        x.addMember(1);
+        for (int i = 1; i <= 510; i++) due("payDues(0, 1000)", x.payDues(0, 1000), 1000 * i);
+        due("count(2), the 512th call", x.count(2), 510000);
+        GuildFund y = new GuildFund();
+        for (int i = 1; i <= 511; i++) {
+            if (i % 2 == 1) due("setNumber(1, 90)", y.setNumber(1, 90), i == 1 ? 20 : 0);
+            else due("setNumber(1, 0)", y.setNumber(1, 0), 90);
+        }
+        due("undo(), the 512th call", y.undo(), 3);
     }
 
     private static void firstDay() {
@@ -981,6 +999,8 @@ public final class GuildFundEdges {
         x.pass(100);
         due("the advance stays", x.invoice(2, 6), 4500);
         due("the offer falls", x.invoice(2, 8) < 4500 ? 1 : 0, 1);
+        x.pay(2, 10000);
+        due("the advance of a settled one stays", x.invoice(2, 6), 4500);
     }
 
     // ---- THE FUND: payments
@@ -1210,6 +1230,8 @@ public final class GuildFundEdges {
         due("the advance stays", x.invoice(0, 6), 2250);
     }
 
+    // At most seven cents of eight members are left over, as each share is cut by less than a cent: no row of calls
+    // leads around again, or to shares that are more than the loss (NOTES.md).
     private static void centsLeftOver() {
         shares("8 cents of 8", afterLoss(8, 7, 7, 7, 7, 7, 7, 7, 7), 1, 1, 1, 1, 1, 1, 1, 1);
         shares("9 cents of 8", afterLoss(9, 7, 7, 7, 7, 7, 7, 7, 7), 2, 1, 1, 1, 1, 1, 1, 1);
@@ -1571,6 +1593,7 @@ public final class GuildFundEdges {
 
     private static void whatAStateIs() {
         everythingElse();
+        placesWrittenOver();
         GuildFund x = made(GuildFundEdges::busy);
         x.pass(1);
         read(x, "4=1,9=1");
@@ -1631,6 +1654,36 @@ public final class GuildFundEdges {
         changedMore.on(y);
         y.restore();
         same("restore() again", state(y), state(made(GuildFundEdges::busy)));
+    }
+
+    /** Other members and invoices in the places of those of the state: an undo and a restore bring back the first ones. */
+    private static void placesWrittenOver() {
+        Setup first = x -> {
+            x.addMember(3);
+            x.addMember(5);
+            x.addInvoice(1, 5, 500, 50);
+        };
+        Setup others = x -> {
+            x.addMember(8);
+            x.addMember(7);
+            x.addInvoice(0, 4, 600, 60);
+        };
+        GuildFund x = new GuildFund();
+        x.keep();
+        first.on(x);
+        x.restore();
+        others.on(x);
+        same("others", state(x), state(made(others)));
+        for (int i = 0; i < 4; i++) x.undo();
+        same("undo()", state(x), state(made(first)));
+        GuildFund y = made(first);
+        y.keep();
+        for (int i = 0; i < 3; i++) y.undo();
+        others.on(y);
+        y.restore();
+        same("restore()", state(y), state(made(first)));
+        y.undo();
+        same("undo() of it", state(y), state(made(others)));
     }
 
     // ---- ERRORS
@@ -2742,6 +2795,13 @@ public final class GuildFundEdges {
         due("of a half", z.best(0), 0);
         due("of a half", z.best(1), 1);
         due("of a great risk", z.best(2), 3);
+        // Nor the greatest offer: that for invoice 3 is 2700, and those for the late ones are about 1000.
+        GuildFund late = made(GuildFundEdges::small);
+        late.addInvoice(0, 2, 5100, 0);
+        late.addInvoice(0, 3, 6000, 100);
+        late.pass(100);
+        int[] order = {2, 0, 1, 3, NONE};
+        for (int rank = 0; rank < order.length; rank++) due("best(" + rank + ")", late.best(rank), order[rank]);
     }
 
     private static void lowestOfSeveral() {
@@ -2789,6 +2849,10 @@ public final class GuildFundEdges {
         // If its client stays as it is: with a lower risk a day more is worth a cent.
         y.pay(0, 5000);
         due("with a risk of a third", y.worthlessIn(2), 1);
+        // Of an invoice in any state, as its offer is told in any state.
+        GuildFund z = made(GuildFundEdges::busy);
+        due("settled", z.worthlessIn(2), 60);
+        due("lost", z.worthlessIn(3), 60);
     }
 
     private static void worthlessLater() {

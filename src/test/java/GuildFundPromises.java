@@ -153,10 +153,10 @@ public final class GuildFundPromises {
 
     /** Floats of every exponent in the range, those without a hidden one too, come back as they were. */
     private static void setRateEveryShape() {
-        GuildFund x = new GuildFund();
-        for (int exponent = 0; exponent <= 125; exponent++) {
-            int[] fractions = {1, 0x2AAAAA, 0x555555, 0x7FFFFF};
-            for (int fraction : fractions) {
+        int[] fractions = {1, 0x2AAAAA, 0x555555, 0x7FFFFF};
+        for (int fraction : fractions) {
+            GuildFund x = new GuildFund();
+            for (int exponent = 0; exponent <= 125; exponent++) {
                 int shape = exponent << 23 | fraction;
                 x.setRate(2, shape);
                 due("bits of rate(2)", bits(x.rate(2)), shape);
@@ -503,7 +503,7 @@ public final class GuildFundPromises {
         due("too much", read(x, "3=999,3=2"), -4);
         due("seven digits", read(x, "3=9999999"), -4);
         due("purse", purse(x, 1), 1000);
-        readFaults(x);
+        readFaults();
         GuildFund y = guildAhead();
         y.undo();
         y.undo();
@@ -513,7 +513,14 @@ public final class GuildFundPromises {
         due("refused is no act", y.count(14), 2);
     }
 
-    private static void readFaults(GuildFund x) {
+    /** A fund with twelve open invoices of 1000. */
+    private static GuildFund guildOfTwelve() {
+        GuildFund x = guild();
+        for (int i = 0; i < 12; i++) x.addInvoice(1, 3, 1000, 0);
+        return x;
+    }
+
+    private static void readFaults() {
         String[] texts = {
             "", "1", "12", "1=", "1=5,", "1=5,2", "1=5,2=", "=5", ",", "01=5", "00=5", "0=0", "1=05",
             "123=5", "1==5", "1=5=", "1=5,,2=5", "1=12345678", "1=1234567", "1 =5", "1=5 ", "-1=5", "1=-5",
@@ -525,8 +532,9 @@ public final class GuildFundPromises {
             4, 2, 2, 0, 0, 0, 3, 6, 10, 1, 2, 1,
         };
         for (int i = 0; i < texts.length; i++) {
-            due("\"" + texts[i] + "\"", read(x, texts[i]), faults[i] < 0 ? -4 : -100 - faults[i]);
+            due("\"" + texts[i] + "\"", read(guildOfTwelve(), texts[i]), faults[i] < 0 ? -4 : -100 - faults[i]);
         }
+        GuildFund x = guildOfTwelve();
         String full = "1=1,1=1,1=1,1=1,1=1,1=1,1=1,1=1,1=1,1=1,1=1,1=1,1=1,1=1,1=1,";
         due("60 characters, too early", read(x, full), -160);
         due("59 characters", read(x, full.substring(0, 59)), 0);
@@ -643,37 +651,44 @@ public final class GuildFundPromises {
         undoOfAll();
     }
 
-    /** An undo restores every number of the state. */
-    private static void undoOfAll() {
+    /** A guild with an invoice ahead and one that is open, both old. */
+    private static GuildFund guildLate() {
         GuildFund x = guildAhead();
         x.addInvoice(2, 4, 777, 3);
         x.pay(0, 500);
         x.pass(150);
-        String was = picture(x);
+        return x;
+    }
+
+    /** An undo and a restore bring back every number of the state. */
+    private static void undoOfAll() {
+        String was = picture(guildLate());
+        GuildFund x = guildLate();
         x.giveUp(0);
         x.pay(1, 777);
         x.setRate(0, bits(0.5f));
         x.setNumber(2, 9);
         for (int i = 0; i < 4; i++) x.undo();
         if (!was.equals(picture(x))) due("all numbers are as they were", 0, 1);
-        x.keep();
-        x.giveUp(0);
-        x.addMember(4);
-        x.payDues(3, 55);
-        x.restore();
-        if (!was.equals(picture(x))) due("all numbers are as they were", 0, 1);
+        GuildFund y = guildLate();
+        y.keep();
+        y.giveUp(0);
+        y.addMember(4);
+        y.payDues(3, 55);
+        y.restore();
+        if (!was.equals(picture(y))) due("all numbers are as they were", 0, 1);
     }
 
     private static String picture(GuildFund x) {
         StringBuilder told = new StringBuilder();
         for (int what = 0; what <= 13; what++) told.append(x.count(what)).append(' ');
-        for (int i = 0; i < 8; i++) {
+        for (int i = 0; i < x.count(4); i++) {
             for (int what = 0; what <= 5; what++) told.append(x.member(i, what)).append(' ');
         }
         for (int i = 0; i < 6; i++) {
             for (int what = 0; what <= 3; what++) told.append(x.client(i, what)).append(' ');
         }
-        for (int i = 0; i < 20; i++) {
+        for (int i = 0; i < x.count(5); i++) {
             for (int what = 0; what <= 10; what++) told.append(x.invoice(i, what)).append(' ');
         }
         for (int i = 0; i < 3; i++) told.append(x.rate(i)).append(' ').append(x.number(i)).append(' ');
