@@ -2,15 +2,21 @@ import java.io.DataInputStream;
 import java.io.File;
 import java.io.FileInputStream;
 import java.io.IOException;
+import java.lang.management.ManagementFactory;
+import java.lang.reflect.Array;
 import java.lang.reflect.Constructor;
 import java.lang.reflect.Field;
 import java.lang.reflect.Method;
 import java.lang.reflect.Modifier;
+import java.util.ArrayDeque;
 import java.util.Arrays;
+import java.util.Collections;
+import java.util.Deque;
+import java.util.IdentityHashMap;
 import java.util.Set;
 import java.util.TreeSet;
 
-/** What LANGUAGE.md asks of the compiled class: its face, its library, and that no call throws. */
+/** What is asked of the compiled class: its face, its library, that no call throws, and how much room it takes. */
 public final class GuildFundRules {
     private static final String[] METHODS = {
         "int setRate(int,int)", "int setNumber(int,int)", "int addMember(int)", "int payDues(int,int)",
@@ -27,6 +33,10 @@ public final class GuildFundRules {
         19, 20, 59, 60, 61, 100, 1000, 1001, 1000000, 0x3F800000, Integer.MAX_VALUE - 1, Integer.MAX_VALUE,
     };
 
+    /** All calls of one run live in a room of 600000 objects and 7.3 million fields and elements. */
+    private static final int MOST_OBJECTS = 200;
+    private static final int MOST_ELEMENTS = 2500;
+
     private static int wrong = 0;
 
     private static void fault(String what) {
@@ -38,6 +48,8 @@ public final class GuildFundRules {
         checkFace();
         checkLibrary();
         checkExtremes();
+        checkRoomOfFund();
+        checkRoomOfCalls();
         System.out.println(wrong == 0 ? "the rules hold" : wrong + " faults");
         if (wrong != 0) System.exit(1);
     }
@@ -184,5 +196,64 @@ public final class GuildFundRules {
         x.undo();
         if (b == 1) x.keep();
         if (b == 2) x.restore();
+    }
+
+    /** A fund takes the same room when it is new and when it is full. */
+    private static void checkRoomOfFund() throws IllegalAccessException {
+        for (GuildFund x : states()) {
+            Set<Object> found = Collections.newSetFromMap(new IdentityHashMap<>());
+            int elements = elementsFrom(x, found);
+            if (found.size() > MOST_OBJECTS) fault("a fund holds " + found.size() + " objects");
+            if (elements > MOST_ELEMENTS) fault("a fund holds " + elements + " fields and elements");
+        }
+    }
+
+    /** Finds all objects that are held; tells how many fields and elements they have. */
+    private static int elementsFrom(Object first, Set<Object> found) throws IllegalAccessException {
+        int elements = 0;
+        Deque<Object> next = new ArrayDeque<>();
+        next.add(first);
+        while (!next.isEmpty()) {
+            Object one = next.remove();
+            if (!found.add(one)) continue;
+            if (one.getClass().isArray()) {
+                elements += Array.getLength(one);
+                if (one instanceof Object[] held) addHeld(held, next);
+                continue;
+            }
+            for (Field field : one.getClass().getDeclaredFields()) {
+                if (Modifier.isStatic(field.getModifiers())) continue;
+                elements++;
+                field.setAccessible(true);
+                if (!field.getType().isPrimitive()) addHeld(new Object[] {field.get(one)}, next);
+            }
+        }
+        return elements;
+    }
+
+    private static void addHeld(Object[] held, Deque<Object> next) {
+        for (Object one : held) {
+            if (one != null) next.add(one);
+        }
+    }
+
+    /** No call makes an object: the first rounds warm up, as the machine itself may make some when it starts. */
+    private static void checkRoomOfCalls() {
+        com.sun.management.ThreadMXBean threads = (com.sun.management.ThreadMXBean) ManagementFactory.getThreadMXBean();
+        long thread = Thread.currentThread().getId();
+        long least = Long.MAX_VALUE;
+        for (int round = 0; round < 20; round++) {
+            GuildFund x = states()[1];
+            long before = threads.getThreadAllocatedBytes(thread);
+            for (int i = 0; i < 6; i++) callAll(x, i, i);
+            long bytes = threads.getThreadAllocatedBytes(thread) - before;
+            least = Math.min(least, bytes);
+        }
+        long measuring = Long.MAX_VALUE;
+        for (int round = 0; round < 20; round++) {
+            long before = threads.getThreadAllocatedBytes(thread);
+            measuring = Math.min(measuring, threads.getThreadAllocatedBytes(thread) - before);
+        }
+        if (least > measuring) fault("calls make objects of " + (least - measuring) + " bytes");
     }
 }
