@@ -10,8 +10,6 @@ import java.util.ArrayList;
 import java.util.List;
 import java.util.regex.Matcher;
 import java.util.regex.Pattern;
-import javax.tools.JavaCompiler;
-import javax.tools.ToolProvider;
 
 /** What README.md says holds: it is run from the directory of that page. */
 public final class GuildFundReadme {
@@ -70,13 +68,13 @@ public final class GuildFundReadme {
     }
 
     private static void run(String program) throws Exception {
-        JavaCompiler compiler = ToolProvider.getSystemJavaCompiler();
         Path folder = Files.createTempDirectory("example");
         Path source = folder.resolve("Example.java");
         try {
             Files.writeString(source, program);
-            String[] options = {"-cp", System.getProperty("java.class.path"), "-d", folder.toString(), source.toString()};
-            if (compiler.run(null, null, null, options) != 0) {
+            String classes = System.getProperty("java.class.path");
+            String[] command = {"javac", "-cp", classes, "-d", folder.toString(), source.toString()};
+            if (new ProcessBuilder(command).inheritIO().start().waitFor() != 0) {
                 fault("the example does not compile");
                 return;
             }
